@@ -24,6 +24,7 @@ public final class FlowerClock {
     private static final int BEST = 1;
     private static final int TURNS = 2;
     private static final int MOST_IN_BEST = 6;
+    private static final int MOST_PATHS = 720;
 
     private static final int DOCKS = 4;
     private static final int CART_STEMS = 40;
@@ -692,41 +693,8 @@ public final class FlowerClock {
             return Math.max(0, Math.min(TOP_CENTS, limits[seat * SORTS + sort] + bonus));
         }
 
-        /** The highest cent, from the given one down, at which somebody stops the hand; -1: nobody does. */
-        int nextStop(int sort, int bonus, int from) {
-            int stop = -1;
-            for (int seat = 0; seat < count; seat++) {
-                if (wants[seat * SORTS + sort] > 0) {
-                    int most = Math.min(credits[seat], worthTo(seat, sort, bonus));
-                    stop = Math.max(stop, Math.min(from, most));
-                }
-            }
-            return stop;
-        }
-
-        /** The SEAT that stops the hand at a cent; -1: nobody does. */
-        int stopper(int sort, int bonus, int price) {
-            int chosen = -1;
-            for (int seat = 0; seat < count; seat++) {
-                boolean can = wants[seat * SORTS + sort] > 0 && credits[seat] >= price
-                    && worthTo(seat, sort, bonus) >= price;
-                if (can && (chosen < 0 || goesBefore(seat, chosen, sort, bonus))) {
-                    chosen = seat;
-                }
-            }
-            return chosen;
-        }
-
-        // Seats are asked in rising order, so of wholly like ones the earlier stays.
-        private boolean goesBefore(int seat, int other, int sort, int bonus) {
-            int worth = worthTo(seat, sort, bonus);
-            int otherWorth = worthTo(other, sort, bonus);
-            return worth > otherWorth || (worth == otherWorth && bought[seat] < bought[other]);
-        }
-
-        int takes(int seat, int sort, int price, int left) {
-            int stems = Math.min(left, wants[seat * SORTS + sort]);
-            return price > 0 ? Math.min(stems, credits[seat] / price) : stems;
+        int wantOf(int seat, int sort) {
+            return wants[seat * SORTS + sort];
         }
 
         void pay(int seat, int sort, int stems, int price) {
@@ -745,8 +713,9 @@ public final class FlowerClock {
     /** The hand of the clock in one SALE at a time; after a stop it shows price, seat and stems of it. */
     private static final class Hand {
         final Buyers buyers;
+        // In one SALE no WORTH changes: each is found once, when the hand is raised.
+        final int[] worths = new int[MOST_BUYERS];
         int sort;
-        int bonus;
         int least;
         int left;
         int price;
@@ -759,31 +728,58 @@ public final class FlowerClock {
 
         void raise(int sort, int bonus, int least, int left) {
             this.sort = sort;
-            this.bonus = bonus;
             this.least = least;
             this.left = left;
             price = TOP_CENTS;
+            for (int i = 0; i < buyers.count; i++) {
+                worths[i] = buyers.worthTo(i, sort, bonus);
+            }
         }
 
         /** Falls to the next stop, if there is one above or at the least price. */
         boolean stops() {
-            int stop = buyers.nextStop(sort, bonus, price);
-            if (left < 1 || stop < least) {
-                return false;
-            }
-            int stopper = buyers.stopper(sort, bonus, stop);
-            if (stopper < 0) {
+            int stop = highestStop();
+            int stopper = stopperAt(stop);
+            if (left < 1 || stop < least || stopper < 0) {
                 return false;
             }
             price = stop;
             seat = stopper;
-            stems = buyers.takes(seat, sort, price, left);
+            stems = Math.min(left, buyers.wantOf(seat, sort));
+            if (price > 0) {
+                stems = Math.min(stems, buyers.credits[seat] / price);
+            }
             return true;
         }
 
         void handOver() {
             buyers.pay(seat, sort, stems, price);
             left -= stems;
+        }
+
+        /** The highest cent, from where the hand is down, at which somebody stops it; -1: nobody does. */
+        private int highestStop() {
+            int stop = -1;
+            for (int i = 0; i < buyers.count; i++) {
+                if (buyers.wantOf(i, sort) > 0) {
+                    int most = Math.min(worths[i], buyers.credits[i]);
+                    stop = Math.max(stop, Math.min(price, most));
+                }
+            }
+            return stop;
+        }
+
+        /** Who stops the hand at a cent; -1: nobody does. Of wholly like ones the first SEAT stays. */
+        private int stopperAt(int cents) {
+            int chosen = -1;
+            for (int i = 0; i < buyers.count; i++) {
+                boolean can = worths[i] >= cents && buyers.credits[i] >= cents && buyers.wantOf(i, sort) > 0;
+                if (can && (chosen < 0 || worths[i] > worths[chosen]
+                        || (worths[i] == worths[chosen] && buyers.bought[i] < buyers.bought[chosen]))) {
+                    chosen = i;
+                }
+            }
+            return chosen;
         }
     }
 
@@ -938,12 +934,12 @@ public final class FlowerClock {
             return sum;
         }
 
-        /** The least TAKINGS of those GROWERS who have a LOT in the order. */
+        /** The least TAKINGS of those GROWERS who have a LOT in the order; -1: it has none. */
         long least(int[] lotsOf) {
-            long least = Long.MAX_VALUE;
+            long least = -1;
             for (int grower = 0; grower < MOST_GROWERS; grower++) {
-                if (lotsOf[grower] > 0) {
-                    least = Math.min(least, takings[grower]);
+                if (lotsOf[grower] > 0 && (least < 0 || takings[grower] < least)) {
+                    least = takings[grower];
                 }
             }
             return least;
@@ -1045,32 +1041,26 @@ public final class FlowerClock {
             return turnsOf[grower] < turnsOf[other] || (turnsOf[grower] == turnsOf[other] && grower < other);
         }
 
+        // Paths come in rising order, so of like ones the first found stays. trials[i] stands ahead of
+        // place i: a path is sold anew only from the place on where it differs from the one before.
         private void findBest() {
             mostTotal = -1;
             mostLeast = -1;
+            System.arraycopy(open, 0, path, 0, MOST_IN_BEST);
             trials[0].beginWith(market.buyers);
-            searchFrom(0);
-        }
-
-        // Rows come in rising order, so of like ones the first found stays.
-        private void searchFrom(int depth) {
-            if (depth >= size || depth >= MOST_IN_BEST) {
-                weighPath(trials[depth]);
-                return;
-            }
-            for (int i = 0; i < size; i++) {
-                if (!used[i]) {
-                    used[i] = true;
-                    path[depth] = open[i];
-                    trials[depth + 1].become(trials[depth]);
-                    trials[depth + 1].sellIn(market, open[i]);
-                    searchFrom(depth + 1);
-                    used[i] = false;
+            int changed = 0;
+            for (int tried = 0; tried < MOST_PATHS && changed >= 0; tried++) {
+                for (int i = changed; i < size && i < MOST_IN_BEST; i++) {
+                    trials[i + 1].become(trials[i]);
+                    trials[i + 1].sellIn(market, path[i]);
                 }
+                weighPath();
+                changed = goToNextPath();
             }
         }
 
-        private void weighPath(Trial end) {
+        private void weighPath() {
+            Trial end = trials[Math.min(size, MOST_IN_BEST)];
             long total = end.total();
             long least = end.least(lotsOf);
             if (total > mostTotal || (total == mostTotal && least > mostLeast)) {
@@ -1078,6 +1068,33 @@ public final class FlowerClock {
                 mostLeast = least;
                 System.arraycopy(path, 0, row, 0, MOST_IN_BEST);
             }
+        }
+
+        /** Makes of the path the next greater one of the same LOTS: the first place changed; -1: it is the last. */
+        private int goToNextPath() {
+            int last = Math.min(size, MOST_IN_BEST) - 1;
+            int changed = last - 1;
+            while (changed >= 0 && path[changed] > path[changed + 1]) {
+                changed--;
+            }
+            if (changed < 0) {
+                return -1;
+            }
+            int greater = last;
+            while (greater > changed && path[greater] < path[changed]) {
+                greater--;
+            }
+            swapInPath(changed, greater);
+            for (int i = changed + 1, j = last; i < j; i++, j--) {
+                swapInPath(i, j);
+            }
+            return changed;
+        }
+
+        private void swapInPath(int i, int j) {
+            int held = path[i];
+            path[i] = path[j];
+            path[j] = held;
         }
     }
 

@@ -71,6 +71,7 @@ public final class GrowersLotsBuyersTest {
         }
         Checks.refused(clock, "an eleventh grower", -2, () -> clock.grower(5));
         Checks.refused(clock, "an eleventh grower, with a wrong due", -1, () -> clock.grower(101));
+        Checks.thrown(clock, "takings(10)", IllegalArgumentException.class, () -> clock.takings(10));
     }
 
     private static void promise3Lot() {
@@ -113,6 +114,8 @@ public final class GrowersLotsBuyersTest {
         }
         Checks.refused(clock, "a lot more than 40", -2, () -> clock.lot(1, 10, 0, 0));
         Checks.refused(clock, "a wrong lot more than 40", -1, () -> clock.lot(1, 0, 0, 0));
+        Checks.same("look(40, 0)", clock.look(40, 0), -1);
+        Checks.same("look(41, 0)", clock.look(41, 0), -1);
     }
 
     private static void promise4Found() {
@@ -164,6 +167,7 @@ public final class GrowersLotsBuyersTest {
         }
         Checks.refused(clock, "a thirteenth buyer", -2, () -> clock.buyer(5));
         Checks.refused(clock, "a wrong thirteenth buyer", -1, () -> clock.buyer(-5));
+        Checks.same("about(12, 0)", clock.about(12, 0), -1);
     }
 
     private static void promise6Want() {
