@@ -306,6 +306,13 @@ public final class SalesTest {
             clock.lot(1, 1, 99, 0);
         }
         orderIs(clock, 1, 1, 0, 2, 3, 4, 5);
+        // Each sale takes the buyer of the greatest limit that is left: only the last row of all sells all.
+        FlowerClock last = clockOf(1, 99, 1, 60, 99, 1, 50, 99, 1, 40, 99, 1, 30, 99, 1, 20, 99, 1, 10);
+        for (int i = 1; i <= 6; i++) {
+            last.lot(0, 1, 10 * i, 0);
+        }
+        orderIs(last, 1, 5, 4, 3, 2, 1, 0);
+        Checks.same("would(1)", last.would(1), 210);
     }
 
     private static void promise14BestByTheLeastTakings() {
