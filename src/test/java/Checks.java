@@ -6,24 +6,47 @@ final class Checks {
 
     private static int made = 0;
     private static int wrong = 0;
+    private static Sentences sentences;
+    private static String held = "";
 
     private Checks() {
+    }
+
+    /** The checks that come hold this sentence of the document: of a promise, or of the terms (0). */
+    static void holds(int promise, String sentence) {
+        if (sentences == null) {
+            sentences = new Sentences();
+        }
+        held = (promise == 0 ? "terms" : "promise " + promise) + ", \"" + sentence + "\": ";
+        made++;
+        if (!sentences.name(promise, sentence)) {
+            wrong(" the document doesn't have this once");
+        }
+    }
+
+    /** Each sentence of the document has been held by a test. */
+    static void allSentencesHeld() {
+        held = "";
+        sameText("sentences without a test", sentences == null ? "all" : sentences.unnamed(), "");
     }
 
     static void same(String what, long got, long due) {
         made++;
         if (got != due) {
-            wrong++;
-            System.out.println(what + " answered " + got + ", due is " + due);
+            wrong(what + " answered " + got + ", due is " + due);
         }
     }
 
     static void sameText(String what, String got, String due) {
         made++;
         if (!got.equals(due)) {
-            wrong++;
-            System.out.println(what + ": got\n" + got + "due is\n" + due);
+            wrong(what + ": got\n" + got + "due is\n" + due);
         }
+    }
+
+    private static void wrong(String told) {
+        wrong++;
+        System.out.println(held + told);
     }
 
     /** A call that answers a refusal and changes nothing. */

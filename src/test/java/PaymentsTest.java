@@ -338,34 +338,28 @@ public final class PaymentsTest {
         return clock;
     }
 
-    private static void rowIs(FlowerClock clock, int shelf, int... due) {
-        for (int i = 0; i < due.length; i++) {
-            Checks.same("element(" + shelf + ", " + i + ")", clock.element(shelf, i), due[i]);
-        }
-    }
-
     private static void promise28Copy() {
         FlowerClock clock = clockWithRows();
         Checks.same("copy(0, 2, 1, 1, 3)", clock.copy(0, 2, 1, 1, 3), 3);
-        rowIs(clock, 1, 0, 3, 4, 5, 0);
-        rowIs(clock, 0, 1, 2, 3, 4, 5, 6, 7, 8, 9, 10, 11, 12);
+        Clocks.rowIs(clock, 1, 0, 3, 4, 5, 0);
+        Clocks.rowIs(clock, 0, 1, 2, 3, 4, 5, 6, 7, 8, 9, 10, 11, 12);
         Checks.same("copy(0, 7, 1, 0, 5) to both ends", clock.copy(0, 7, 1, 0, 5), 5);
-        rowIs(clock, 1, 8, 9, 10, 11, 12);
+        Clocks.rowIs(clock, 1, 8, 9, 10, 11, 12);
         Checks.same("copy(0, 12, 1, 5, 0) at the end", clock.copy(0, 12, 1, 5, 0), 0);
         Checks.same("copy(2, 0, 3, 7, 2) of longs", clock.copy(2, 0, 3, 7, 2), 2);
         buy(clock, 0, 10);
         clock.keep(2, 4, 0);
         Checks.same("copy(2, 0, 3, 7, 2) of longs", clock.copy(2, 0, 3, 7, 2), 2);
-        rowIs(clock, 3, 0, 0, 0, 0, 0, 0, 0, 450, 0);
+        Clocks.rowIs(clock, 3, 0, 0, 0, 0, 0, 0, 0, 450, 0);
     }
 
     private static void promise28CopyOnItself() {
         FlowerClock up = clockWithRows();
         Checks.same("copy(0, 0, 0, 2, 10)", up.copy(0, 0, 0, 2, 10), 10);
-        rowIs(up, 0, 1, 2, 1, 2, 3, 4, 5, 6, 7, 8, 9, 10);
+        Clocks.rowIs(up, 0, 1, 2, 1, 2, 3, 4, 5, 6, 7, 8, 9, 10);
         FlowerClock down = clockWithRows();
         Checks.same("copy(0, 2, 0, 0, 10)", down.copy(0, 2, 0, 0, 10), 10);
-        rowIs(down, 0, 3, 4, 5, 6, 7, 8, 9, 10, 11, 12, 11, 12);
+        Clocks.rowIs(down, 0, 3, 4, 5, 6, 7, 8, 9, 10, 11, 12, 11, 12);
     }
 
     private static void promise28Refusals() {
