@@ -131,6 +131,9 @@ final class OrdersBoundaries {
         middle.lot(0, 1, 60, 0);
         middle.lot(0, 1, 50, 0);
         Clocks.orderIs(middle, 1, 1, 2, 0);
+        // Of fewer LOTS the most is less than it was, and is found anew.
+        middle.sell(1);
+        Clocks.orderIs(middle, 1, 2, 0);
         // One cent more decides, though the least TAKINGS are less by it.
         FlowerClock cent = Clocks.of(2, 1000, 2, 51, 1000, 1, 50);
         cent.lot(0, 2, 51, 0);
@@ -158,6 +161,7 @@ final class OrdersBoundaries {
         ahead.lot(0, 1, 60, 0);
         ahead.lot(1, 8, 50, 0);
         ahead.lot(2, 7, 50, 0);
+        Clocks.orderIs(ahead, 1, 0, 1, 2);
         ahead.sell(0);
         Clocks.orderIs(ahead, 1, 2, 1);
         // Several LOTS of one GROWER count together.

@@ -214,6 +214,16 @@ final class SalePromisesBoundaries {
         two.lot(0, 4, 0, 0);
         two.lot(0, 9, 0, 0);
         Checks.same("the hand goes on in a LOT, CREDIT is less in the next", two.would(0), 60 + 60 + 59 + 45);
+        // Seat 0 bought 1 on THE DAY, so seat 1 comes first, and has no CREDIT for the other SORT then.
+        FlowerClock bought = Clocks.of(1, 1000, 9, 60, 60, 1, 60);
+        bought.want(1, 1, 1, 50);
+        bought.lot(0, 1, 0, 0);
+        bought.sell(0);
+        bought.lot(0, 1, 0, 0);
+        bought.lot(10, 1, 50, 0);
+        Checks.same("BOUGHT on THE DAY counts", bought.would(0), 60);
+        bought.close();
+        Checks.same("and on the DAY before not", bought.would(0), 60 + 50);
         FlowerClock most = Clocks.of(1);
         for (int buyer = 0; buyer < 12; buyer++) {
             most.buyer(1000000);

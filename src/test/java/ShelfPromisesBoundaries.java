@@ -145,6 +145,11 @@ final class ShelfPromisesBoundaries {
         clock.keep(6, 3, 0);
         Checks.same("in place of WANTS", clock.make(6, 3, 12), 0);
         Clocks.rowIs(clock, 6, 0, 0, 0, 0, 0, 0, 0, 0, 0, 0, 0, 0);
+        Clocks.buy(clock, 0, 9, 10);
+        clock.keep(6, 4, 0);
+        Clocks.rowIs(clock, 6, 90);
+        Checks.same("in place of TAKINGS", clock.make(6, 4, 1), 0);
+        Clocks.rowIs(clock, 6, 0);
         Checks.same("in place of a LOT", clock.make(1, 3, 1), 0);
         Checks.same("a LOT no more", clock.weight(1), -12);
         Checks.holds(26, "-1");

@@ -308,22 +308,22 @@ final class TermsBoundaries {
 
     private static void worthOfFeastIsFiveMoreOnThreeDays() {
         Checks.holds(0, "of FEAST ones 5 more, if its DAY is THE DAY or one of the two DAYS to come");
-        FlowerClock clock = withLimit(0);
+        FlowerClock clock = withLimit(40);
         for (int day = 0; day <= 6; day++) {
             clock.lot(300, 5, 0, day);
         }
         for (int today = 0; today <= 4; today++) {
             for (int day = 0; day <= 6; day++) {
                 boolean near = day == today || day == today + 1 || day == today + 2;
-                Checks.same("feast on " + day + ", THE DAY " + today, clock.worth(0, day), near ? 5 : 0);
+                Checks.same("feast on " + day + ", THE DAY " + today, clock.worth(0, day), near ? 45 : 40);
             }
             clock.close();
         }
-        FlowerClock late = withLimit(0);
+        FlowerClock late = withLimit(40);
         late.lot(300, 5, 0, 1000);
         for (int today = 0; today <= 1000; today++) {
             if (today == 997 || today == 998 || today == 1000) {
-                Checks.same("feast on 1000, THE DAY " + today, late.worth(0, 0), today == 997 ? 0 : 5);
+                Checks.same("feast on 1000, THE DAY " + today, late.worth(0, 0), today == 997 ? 40 : 45);
             }
             late.close();
         }
