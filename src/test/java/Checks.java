@@ -12,16 +12,23 @@ final class Checks {
     private Checks() {
     }
 
-    /** The checks that come hold this sentence of the document: of a promise, or of the terms (0). */
+    /** The checks that come hold this sentence: of a promise, or of what stands ahead of (0) or behind (31) them all. */
     static void holds(int promise, String sentence) {
         if (sentences == null) {
             sentences = new Sentences();
         }
-        held = (promise == 0 ? "terms" : "promise " + promise) + ", \"" + sentence + "\": ";
+        held = partOf(promise) + ", \"" + sentence + "\": ";
         made++;
         if (!sentences.name(promise, sentence)) {
             wrong(" the document doesn't have this once");
         }
+    }
+
+    private static String partOf(int promise) {
+        if (promise == 0) {
+            return "ahead of the promises";
+        }
+        return promise > 30 ? "behind the promises" : "promise " + promise;
     }
 
     /** Each sentence of the document has been held by a test. */

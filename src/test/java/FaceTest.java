@@ -1,54 +1,53 @@
 import java.lang.reflect.Constructor;
+import java.lang.reflect.Executable;
 import java.lang.reflect.Field;
 import java.lang.reflect.Method;
 import java.lang.reflect.Modifier;
 import java.util.ArrayList;
-import java.util.Arrays;
 import java.util.Collections;
 import java.util.List;
+import java.util.regex.Matcher;
+import java.util.regex.Pattern;
 
-/** The public face of the document and nothing beside it (rule 1 of LANGUAGE.md). */
+/** The public face that the document shows, in its groups, and nothing beside it (rule 1 of LANGUAGE.md). */
 public final class FaceTest {
-    private static final String[] FACE = {
-        "int grower(int)", "int lot(int, int, int, int)", "int found(int, int)", "int buyer(int)",
-        "int want(int, int, int, int)", "int credit(int, int)", "int worth(int, int)", "int look(int, int)",
-        "int about(int, int)", "long takings(int) throws IllegalArgumentException", "int sell(int)", "int round(int)",
-        "int place(int, int)", "long would(int) throws IllegalArgumentException, IllegalStateException",
-        "int foretold(int)", "int first(int)", "int close()", "int payment(int, int)", "int claim(int, int)",
-        "int cart(int)", "int dock(int)", "long bill(int, int) throws IllegalArgumentException", "int count(int)",
-        "int keep(int, int, int)", "int make(int, int, int)",
-        "long element(int, int) throws IllegalArgumentException, IllegalStateException",
-        "int copy(int, int, int, int, int)", "int weight(int)", "int toss(int)"};
+    private static final Pattern NAME = Pattern.compile(" (\\w+)\\(");
 
     public static void main(String[] args) {
         Class<FlowerClock> face = FlowerClock.class;
+        List<String> due = Document.code(Document.text());
+        Checks.same("lines of the document's face", due.size(), 32);
+        Checks.sameText("its first line", due.get(0), "public final class FlowerClock {");
         Checks.same("the class is public and final", face.getModifiers(), Modifier.PUBLIC | Modifier.FINAL);
-        Constructor<?>[] constructors = face.getDeclaredConstructors();
-        Checks.same("constructors", constructors.length, 1);
-        Checks.same("its parameters", constructors[0].getParameterCount(), 0);
-        Checks.same("it is public", constructors[0].getModifiers(), Modifier.PUBLIC);
-        methodsAreTheFace(face);
-        for (Field field : face.getDeclaredFields()) {
-            Checks.same(field.getName() + " is private", field.getModifiers() & Modifier.PRIVATE, Modifier.PRIVATE);
-        }
+        membersAreTheFace(face, due.subList(1, due.size() - 1));
+        constantsAreNone(face);
         for (Class<?> inside : face.getDeclaredClasses()) {
             int open = inside.getModifiers() & (Modifier.PUBLIC | Modifier.PROTECTED);
             Checks.same(inside.getName() + " is not open", open, 0);
             Checks.same(inside.getName() + " is static", inside.getModifiers() & Modifier.STATIC, Modifier.STATIC);
         }
+        callsStandInTheirGroups();
         Checks.end("FaceTest");
     }
 
-    private static void methodsAreTheFace(Class<?> face) {
-        List<String> due = new ArrayList<>(Arrays.asList(FACE));
+    private static void membersAreTheFace(Class<?> face, List<String> shown) {
+        List<String> due = new ArrayList<>();
+        List<String> names = new ArrayList<>();
+        for (String line : shown) {
+            // "public int worth(int buyer, int lot);" is held as "public int worth(int, int)"
+            due.add(line.replaceAll("(int|long) \\w+([,)])", "$1$2").replace(";", ""));
+            names.add(nameIn(line));
+        }
         List<String> got = new ArrayList<>();
+        for (Constructor<?> constructor : face.getDeclaredConstructors()) {
+            got.add(told(constructor, "public FlowerClock"));
+        }
         for (Method method : face.getDeclaredMethods()) {
-            if (!Modifier.isPrivate(method.getModifiers())) {
-                got.add(told(method));
-                Checks.same(method.getName() + " is public alone", method.getModifiers(), Modifier.PUBLIC);
+            if (Modifier.isPrivate(method.getModifiers())) {
+                Checks.same(method.getName() + " is no name of the face", names.contains(method.getName()) ? 1 : 0, 0);
             } else {
-                boolean taken = due.stream().anyMatch(one -> one.contains(" " + method.getName() + "("));
-                Checks.same(method.getName() + " is no name of the face", taken ? 1 : 0, 0);
+                String type = method.getReturnType().getSimpleName();
+                got.add(told(method, Modifier.toString(method.getModifiers()) + " " + type + " " + method.getName()));
             }
         }
         Collections.sort(due);
@@ -56,16 +55,50 @@ public final class FaceTest {
         Checks.sameText("the face", String.join("\n", got), String.join("\n", due));
     }
 
-    private static String told(Method method) {
-        List<String> parameters = new ArrayList<>();
-        for (Class<?> type : method.getParameterTypes()) {
-            parameters.add(type.getSimpleName());
+    /** The document's face has no constants, so no field is open. */
+    private static void constantsAreNone(Class<?> face) {
+        for (Field field : face.getDeclaredFields()) {
+            Checks.same(field.getName() + " is private", field.getModifiers() & Modifier.PRIVATE, Modifier.PRIVATE);
         }
-        List<String> thrown = new ArrayList<>();
-        for (Class<?> type : method.getExceptionTypes()) {
-            thrown.add(type.getSimpleName());
+    }
+
+    /** "Ahead of the calls .. the interface says: .." tells a group: so it stands in the program, too. */
+    private static void callsStandInTheirGroups() {
+        String program = Document.read(Document.PROGRAM);
+        Matcher group = Pattern.compile("(?m)^Ahead of the calls (.*) the interface says: (.*)\\.$").matcher(Document.text());
+        int groups = 0;
+        int last = 0;
+        while (group.find()) {
+            int head = program.indexOf("// " + group.group(2) + "\n");
+            Checks.same(group.group(2) + " stands behind all before", head > last ? 1 : 0, 1);
+            last = head;
+            Matcher call = Pattern.compile("`(\\w+)`").matcher(group.group(1));
+            while (call.find()) {
+                Matcher place = Pattern.compile("\n    public \\w+ " + call.group(1) + "\\(").matcher(program);
+                int stands = place.find() ? place.start() : -1;
+                Checks.same(call.group(1) + " stands in its place", stands > last ? 1 : 0, 1);
+                last = Math.max(stands, last);
+            }
+            groups++;
         }
-        return method.getReturnType().getSimpleName() + " " + method.getName() + "(" + String.join(", ", parameters) + ")"
-            + (thrown.isEmpty() ? "" : " throws " + String.join(", ", thrown));
+        Checks.same("groups", groups, 3);
+    }
+
+    private static String nameIn(String line) {
+        Matcher name = NAME.matcher(line);
+        return name.find() ? name.group(1) : "";
+    }
+
+    private static String told(Executable executable, String head) {
+        return head + "(" + names(executable.getParameterTypes()) + ")"
+            + (executable.getExceptionTypes().length == 0 ? "" : " throws " + names(executable.getExceptionTypes()));
+    }
+
+    private static String names(Class<?>[] types) {
+        List<String> names = new ArrayList<>();
+        for (Class<?> type : types) {
+            names.add(type.getSimpleName());
+        }
+        return String.join(", ", names);
     }
 }

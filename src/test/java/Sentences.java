@@ -1,6 +1,3 @@
-import java.io.IOException;
-import java.nio.file.Files;
-import java.nio.file.Path;
 import java.util.ArrayList;
 import java.util.List;
 import java.util.regex.Matcher;
@@ -9,15 +6,15 @@ import java.util.regex.Pattern;
 /** The sentences of ../shared/DOC.md, and which of them a test has named. */
 final class Sentences {
     private static final int PROMISES = 30;
-    private static final Path DOCUMENT = Path.of("../shared/DOC.md");
+    private static final int LAST_PART = PROMISES + 1;
 
-    // Part 0 holds the terms, part n promise n.
+    // Part 0 holds what stands ahead of the promises, part n promise n, the last one what stands behind them.
     private final List<String> parts = new ArrayList<>();
     private final List<boolean[]> named = new ArrayList<>();
 
     Sentences() {
-        String document = read();
-        for (int part = 0; part <= PROMISES; part++) {
+        String document = Document.text();
+        for (int part = 0; part <= LAST_PART; part++) {
             String text = textOf(document, part);
             parts.add(text);
             named.add(new boolean[text.length()]);
@@ -40,7 +37,7 @@ final class Sentences {
     /** What of the document no test has named, a line for each piece. */
     String unnamed() {
         StringBuilder rest = new StringBuilder();
-        for (int part = 0; part <= PROMISES; part++) {
+        for (int part = 0; part <= LAST_PART; part++) {
             String text = parts.get(part);
             StringBuilder piece = new StringBuilder();
             for (int i = 0; i <= text.length(); i++) {
@@ -61,26 +58,23 @@ final class Sentences {
         piece.setLength(0);
     }
 
-    private static String read() {
-        try {
-            return Files.readString(DOCUMENT);
-        } catch (IOException failure) {
-            throw new IllegalStateException("no document at " + DOCUMENT, failure);
-        }
-    }
-
-    /** The words of a part alone: neither the call's form, which FaceTest holds, nor marks of layout. */
+    /** The words of a part alone: neither the calls' forms and groups, which FaceTest holds, nor marks of layout. */
     private static String textOf(String document, int part) {
-        String from = part == 0 ? "## Terms\n" : "## Promise " + part + ":";
-        String to = part < PROMISES ? "## Promise " + (part + 1) + ":" : "## Not promised";
-        int start = document.indexOf(from);
-        int end = document.indexOf(to);
+        int start = document.indexOf(beginOf(part));
+        int end = part == LAST_PART ? document.length() : document.indexOf(beginOf(part + 1));
         if (start < 0 || end < start) {
             throw new IllegalStateException("the document has no part " + part);
         }
-        String text = document.substring(start, end);
-        text = text.replaceAll("(?m)^##.*$", " ").replaceAll("(?m)^Ahead of the calls.*$", " ");
+        String text = document.substring(start, end).replaceAll("(?s)```java\n.*?```", " ");
+        text = text.replaceAll("(?m)^#.*$", " ").replaceAll("(?m)^Ahead of the calls.*$", " ");
         text = text.replaceAll("(?m)^```.*$", " ").replaceAll("==== \\d", " ").replaceAll("`[^`]*`:", " ");
         return text.replaceAll("\\s+", " ");
+    }
+
+    private static String beginOf(int part) {
+        if (part == 0) {
+            return "# FlowerClock\n";
+        }
+        return part == LAST_PART ? "## Not promised\n" : "## Promise " + part + ":";
     }
 }
